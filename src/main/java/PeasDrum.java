@@ -84,7 +84,7 @@ public final class PeasDrum {
             return finding(BEYOND);
         }
         sound.fitTo(camp.stuff);
-        return sound.losesBetween(from, to);
+        return sound.rowTo(to)[from];
     }
 
     // ---- galleries
@@ -370,7 +370,7 @@ public final class PeasDrum {
             return 0;
         }
         sound.fitTo(camp.stuff);
-        return heard(g.kind, g.head, camp.dishes[dish]);
+        return heard(g.kind, g.head, sound.rowTo(camp.dishes[dish]));
     }
 
     public long where(int kind) {
@@ -411,19 +411,20 @@ public final class PeasDrum {
         return cellOfFewest;
     }
 
-    /** What is heard at a cell of one of theirs of a kind with its head at another; sound fits. */
-    private int heard(int kind, int head, int at) {
-        int parts = 1 + sound.losesBetween(head, at);
+    /** What is heard of one of theirs of a kind, with its head at a cell, where that row goes. */
+    private int heard(int kind, int head, int[] row) {
+        int parts = 1 + row[head];
         return parts < 1 ? 0 : camp.loudIn(kind, head) / parts;
     }
 
     /** PEAS of a dish at a cell, with the galleries of a camp whose ground is this one's. */
     private int peasAt(Camp there, int cell) {
+        int[] row = sound.rowTo(cell);
         int sum = 0;
         for (int i = 0; i < there.galleryCount; i++) {
             Gallery g = there.galleries[i];
             if (g.isLeftOf(Gallery.THEIRS)) {
-                sum += heard(g.kind, g.head, cell);
+                sum += heard(g.kind, g.head, row);
             }
         }
         return sum;
@@ -444,7 +445,7 @@ public final class PeasDrum {
 
     private boolean accountsForPeas(int kind, int head) {
         for (int d = 0; d < camp.dishCount; d++) {
-            if (heard(kind, head, camp.dishes[d]) != peasNow[d]) {
+            if (heard(kind, head, sound.rowTo(camp.dishes[d])) != peasNow[d]) {
                 return false;
             }
         }
@@ -454,9 +455,10 @@ public final class PeasDrum {
     /** How many of these places a new dish at a cell would leave. */
     private int placesLeft(int kind, long places, int cell) {
         int peasThere = peasAt(camp, cell);
+        int[] row = sound.rowTo(cell);
         int left = 0;
         for (int head = 0; head < Grid.CELLS; head++) {
-            if ((places >>> head & 1) == 1 && heard(kind, head, cell) == peasThere) {
+            if ((places >>> head & 1) == 1 && heard(kind, head, row) == peasThere) {
                 left++;
             }
         }
@@ -1155,15 +1157,15 @@ public final class PeasDrum {
         }
     }
 
-    /** How far sound goes: rows of sums are kept for as long as the ground carries as it did. */
+    /** How far sound goes: rows of FAR are kept for as long as the ground carries as it did. */
     private static final class Sound {
         private static final int[] CARRIES = {1, 2, 1, 4};
 
         private final int[] loses = new int[Grid.CELLS];
-        private final int[][] sums = new int[Grid.CELLS][Grid.CELLS];
+        private final int[][] rows = new int[Grid.CELLS][Grid.CELLS];
         private final boolean[] known = new boolean[Grid.CELLS];
 
-        /** To be called ahead of losesBetween, whenever the ground may have changed. */
+        /** To be called ahead of rowTo, whenever the ground may have changed. */
         void fitTo(int[] stuff) {
             boolean same = true;
             for (int cell = 0; cell < Grid.CELLS; cell++) {
@@ -1178,15 +1180,18 @@ public final class PeasDrum {
             }
         }
 
-        /** FAR from a cell to a cell. */
-        int losesBetween(int from, int to) {
+        /** FAR to a cell, from each; kept by where sound goes, as few dishes hear many heads. */
+        int[] rowTo(int to) {
+            int[] row = rows[to];
             if (!known[to]) {
-                Grid.spread(to, loses, sums[to]);
                 known[to] = true;
+                Grid.spread(to, loses, row);
+                // The way back enters the same cells, but this end instead of the other one.
+                for (int from = 0; from < Grid.CELLS; from++) {
+                    row[from] += loses[to] - loses[from];
+                }
             }
-            // Rows are kept by where sound goes, as few dishes hear many heads. The way back enters
-            // the same cells but for its ends: the last cell there is the first one here.
-            return sums[to][from] - loses[from] + loses[to];
+            return row;
         }
     }
 

@@ -4,6 +4,7 @@ public final class GalleryTest {
 
     public static void main(String[] args) {
         gallery();
+        newWhereOneWas();
         turn();
         become();
         as();
@@ -49,6 +50,17 @@ public final class GalleryTest {
         check.due("8: of(0, 6)", x.of(0, 6), Check.BEYOND);
         check.due("8: status(0)", x.status(0), 13);
         check.due("8: status(1)", x.status(1), 1);
+    }
+
+    private static void newWhereOneWas() {
+        PeasDrum x = new PeasDrum();
+        x.image();
+        x.gallery(1, 0, 20, 1);
+        x.nights(1);
+        x.blow(20, 1);
+        x.undo();
+        x.gallery(0, 1, 3, 2);
+        of(x, "7: nothing of one that was undone", 0, 0, 1, 3, 2, 0, 0);
     }
 
     private static void turn() {

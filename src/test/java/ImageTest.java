@@ -8,6 +8,7 @@ public final class ImageTest {
         count();
         status();
         findingsChangeNothing();
+        eachFindingCounts();
         check.end();
     }
 
@@ -177,5 +178,80 @@ public final class ImageTest {
         check.due("sheets too", x.write(0, 1, 0), 0);
         check.due("THE TAPE too", x.count(3), 0);
         check.due("all were findings", x.status(-1), 18);
+    }
+
+    private static int findings = 0;
+
+    /** The act that answered this answered a finding, and status() knows. */
+    private static void counted(PeasDrum x, String call, long answer) {
+        findings++;
+        check.isTrue("46: " + call + " answers a finding", answer <= Check.BEYOND && answer >= Check.SIZE);
+        check.due("46: status(-1) behind " + call, x.status(-1), findings);
+    }
+
+    private static void eachFindingCounts() {
+        PeasDrum x = new PeasDrum();
+        counted(x, "where", x.where(0));
+        counted(x, "best", x.best(0));
+        Check.siege(x, "gallery theirs at 4 way 0;sap ours at 47 way 2;dish 4");
+        counted(x, "ground", x.ground(48, 0));
+        counted(x, "wall", x.wall(48, true));
+        counted(x, "cellOf", x.cellOf(0, 3));
+        counted(x, "far", x.far(48, 0));
+        counted(x, "gallery", x.gallery(6, 0, 0, 0));
+        counted(x, "of", x.of(2, 0));
+        counted(x, "turn", x.turn(2, 0));
+        counted(x, "become", x.become(2, 0));
+        counted(x, "as", x.as(2, 0));
+        counted(x, "does", x.does(2, 0, 0));
+        counted(x, "nights", x.nights(0));
+        counted(x, "now", x.now(4));
+        counted(x, "on", x.on(2, 0));
+        counted(x, "lost", x.lost(2));
+        counted(x, "lost", x.lost(1));
+        counted(x, "first", x.first());
+        counted(x, "comes", x.comes(2, 0));
+        counted(x, "meets", x.meets(2, 0));
+        counted(x, "meets", x.meets(0, 0));
+        counted(x, "whose", x.whose(2));
+        counted(x, "whose", x.whose(1));
+        counted(x, "dish", x.dish(48));
+        counted(x, "move", x.move(1, 0));
+        counted(x, "peas", x.peas(1));
+        counted(x, "hears", x.hears(1, 0));
+        counted(x, "where", x.where(6));
+        counted(x, "best", x.best(6));
+        counted(x, "best", x.best(2));
+        counted(x, "falls", x.falls(48, 1));
+        counted(x, "blow", x.blow(48, 1));
+        counted(x, "mine", x.mine(0));
+        counted(x, "mine", x.mine(1));
+        counted(x, "bread", x.bread(3, 1));
+        counted(x, "ration", x.ration(0));
+        counted(x, "ration", x.ration(1));
+        counted(x, "feed", x.feed(0, 0));
+        sheetFindingsCount(x);
+        counted(x, "undo", x.undo());
+        counted(x, "count", x.count(7));
+        counted(x, "status", x.status(7));
+    }
+
+    private static void sheetFindingsCount(PeasDrum x) {
+        counted(x, "sheet", x.sheet(4, 8, 1));
+        counted(x, "write", x.write(4, 0, 0));
+        counted(x, "write", x.write(0, 0, 0));
+        counted(x, "copy", x.copy(4, 0, 0, 0, 0));
+        counted(x, "copy", x.copy(0, 0, 0, 0, 0));
+        counted(x, "lays", x.lays(4, 0));
+        counted(x, "lays", x.lays(0, 0));
+        counted(x, "book", x.book(4));
+        counted(x, "book", x.book(0));
+        counted(x, "read", x.read(4));
+        counted(x, "read", x.read(0));
+        x.sheet(0, 8, 1);
+        x.write(0, 0, 99);
+        counted(x, "write", x.write(0, 1, 0));
+        counted(x, "lays", x.lays(0, 48));
+        counted(x, "read", x.read(0));
     }
 }

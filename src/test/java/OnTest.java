@@ -162,6 +162,46 @@ public final class OnTest {
         x.nights(1);
         check.due("19: theirs is LOST", x.meets(0, 2), Check.STATE);
         slowMeeting();
+        nearMeeting();
+        lastMeeting();
+    }
+
+    private static void nearMeeting() {
+        int[] cells = {20, 12, 21, 28, 19};
+        for (int cell : cells) {
+            PeasDrum x = new PeasDrum();
+            for (int c = 0; c < 48; c++) {
+                x.ground(c, 3);
+            }
+            x.gallery(0, 1, cell, 0);
+            x.gallery(0, 0, 20, 0);
+            check.due("19: at " + cell + ", on it or BESIDE it", x.meets(0, 1), 0);
+            check.due("20: at " + cell + ", by number 0", x.whose(1), 0);
+        }
+        PeasDrum y = new PeasDrum();
+        for (int i = 0; i < 9; i++) {
+            y.gallery(0, 0, 20, 0);
+        }
+        y.gallery(0, 1, 47, 0);
+        check.due("20: by number 9", y.whose(8), 9);
+        check.due("19: by number 9", y.meets(9, 8), 7);
+    }
+
+    /** Ten cells of 6 nights each are 60; eleven are too many. */
+    private static void lastMeeting() {
+        PeasDrum x = new PeasDrum();
+        for (int c = 0; c < 48; c++) {
+            x.ground(c, 2);
+            x.wall(c, true);
+        }
+        x.gallery(3, 1, 0, 0);
+        x.gallery(0, 0, 46, 2);
+        x.gallery(0, 0, 47, 2);
+        check.due("18: may be later", x.comes(0, 47), 72);
+        check.due("19: in 60", x.meets(0, 1), 60);
+        check.due("20: in 60", x.whose(1), 0);
+        check.due("19: not in 66", x.meets(0, 2), Check.NONE);
+        check.due("20: not in 66", x.whose(2), Check.NONE);
     }
 
     private static void slowMeeting() {

@@ -77,6 +77,12 @@ public final class PowderBreadTest {
     private static void mine() {
         PeasDrum x = new PeasDrum();
         check.due("29: no WALL", x.mine(30), Check.NONE);
+        x.wall(0, true);
+        check.due("29: at 0", x.mine(1), 0);
+        x.wall(0, false);
+        x.wall(47, true);
+        check.due("29: at 47", x.mine(1), 47);
+        x.wall(47, false);
         x.wall(20, true);
         check.due("29: just there", x.mine(1), 20);
         check.due("29: of several the least", x.mine(4), 12);

@@ -119,6 +119,10 @@ public final class TextTest {
         siege(x, "bread 1 ration 0", -16);
         siege(x, "bread 1 ration 100", -16);
         siege(x, "bread 1 mouths 2 mouths 3", -18);
+        siege(x, "bread", -6);
+        siege(x, "bread 1 mouths", -15);
+        siege(x, "bread 1 ration", -15);
+        siege(x, "bread 1 mouths 2 ration", -24);
         siege(x, "bread 1 2", -9);
         siege(x, "bread 1000000", -7);
         siege(x, "bread mouths 2", -7);
@@ -146,6 +150,10 @@ public final class TextTest {
         siege(x, "bread 4294967297", -7);
         siege(x, "dish 18446744073709551617", -6);
         siege(x, "rockto 5", -1);
+        siege(x, "fish 5", -1);
+        siege(x, "disk 5", -1);
+        siege(x, "dishz 5", -1);
+        siege(x, "dish 5z", -7);
         siege(x, "roc k 5", -1);
         siege(x, "Rock 5", -1);
         siege(x, "rock 5\t6", -7);
@@ -193,6 +201,9 @@ public final class TextTest {
         siege(x, "rock 47 to", -11);
         siege(x, "wall 3 way", -8);
         siege(x, "gallery", -8);
+        siege(x, "gallery ours", -13);
+        siege(x, "gallery ours at", -16);
+        siege(x, "gallery ours at 5", -18);
         siege(x, "gallery at 5 way 0", -9);
         siege(x, "gallery ours 5 way 0", -14);
         siege(x, "gallery ours at way 0", -17);
