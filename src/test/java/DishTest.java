@@ -8,6 +8,7 @@ public final class DishTest {
         peas();
         where();
         best();
+        bestOfSilence();
         bestBounds();
         check.end();
     }
@@ -149,6 +150,19 @@ public final class DishTest {
         check.due("26: where, with one too far", x.where(0), Check.set(9));
         // A DISH that hears that one too leaves no place at all, which is fewest.
         check.due("26: fewest may be none", x.best(0), 7);
+    }
+
+    /** All is silent, so that every cell is a place; a DISH near the one CELL of CLAY takes one. */
+    private static void bestOfSilence() {
+        PeasDrum x = new PeasDrum();
+        for (int cell = 0; cell < 48; cell++) {
+            x.ground(cell, 3);
+        }
+        x.dish(0);
+        check.due("26: all WATER, of several the least", x.best(0), 0);
+        x.ground(47, 0);
+        check.due("26: where", x.where(0), (1L << 48) - 1);
+        check.due("26: 47 places instead of 48", x.best(0), 31);
     }
 
     private static void bestBounds() {
