@@ -31,10 +31,15 @@ final class Check {
         }
     }
 
-    /** Feeds a text byte by byte. */
+    /** Feeds a text, four bytes at a time. */
     static void feed(PeasDrum x, String text) {
-        for (int i = 0; i < text.length(); i++) {
-            x.feed(text.charAt(i), 1);
+        for (int at = 0; at < text.length(); at += 4) {
+            int n = Math.min(4, text.length() - at);
+            int bytes = 0;
+            for (int i = 0; i < n; i++) {
+                bytes = bytes << 8 | text.charAt(at + i);
+            }
+            x.feed(bytes, n);
         }
     }
 
@@ -43,10 +48,10 @@ final class Check {
         return x.siege();
     }
 
-    /** Makes NIGHT that number, on a new object without galleries. */
+    /** Nights go until NIGHT is that number. */
     static void waitUntil(PeasDrum x, int night) {
-        while (x.now(0) < night) {
-            x.nights(Math.min(60, night - x.now(0)));
+        for (int now = x.now(0); now < night; now = x.now(0)) {
+            x.nights(Math.min(60, night - now));
         }
     }
 

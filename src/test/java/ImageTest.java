@@ -42,7 +42,7 @@ public final class ImageTest {
         x.write(0, 0, 1);
         Check.feed(x, "ab");
         x.image();
-        String was = all(x);
+        String was = Look.atCamp(x);
         x.ground(5, 3);
         x.wall(6, false);
         x.wall(7, true);
@@ -60,7 +60,7 @@ public final class ImageTest {
         Check.feed(x, "cd");
         x.write(0, 0, 2);
         x.undo();
-        check.isTrue("43: all is as it was", was.equals(all(x)));
+        check.isTrue("43: all is as it was", was.equals(Look.atCamp(x)));
         check.due("43: THE TAPE isn't kept", x.count(3), 4);
         check.due("43: sheets aren't kept", x.write(0, 0, 0), 2);
         check.due("43: sound is as it was", x.far(4, 5), 1);
@@ -70,32 +70,7 @@ public final class ImageTest {
         check.due("46: undo() takes none back", x.status(-1), before + 1);
         check.due("43: what the image has is not changed by nights", x.nights(3), 0);
         x.undo();
-        check.isTrue("43: all is as it was", was.equals(all(x)));
-    }
-
-    private static String all(PeasDrum x) {
-        StringBuilder told = new StringBuilder();
-        for (int cell = 0; cell < 48; cell++) {
-            told.append(x.cellOf(cell, 0)).append(x.cellOf(cell, 1)).append(x.cellOf(cell, 2));
-        }
-        for (int g = 0; g < x.count(0); g++) {
-            told.append(" gallery");
-            for (int what = 0; what < 6; what++) {
-                told.append(' ').append(x.of(g, what));
-            }
-        }
-        for (int d = 0; d < x.count(1); d++) {
-            int cell = x.move(d, 0);
-            x.move(d, cell);
-            told.append(" dish ").append(cell).append(' ').append(x.peas(d));
-        }
-        for (int what = 0; what < 4; what++) {
-            told.append(" now ").append(x.now(what));
-        }
-        for (int what = 4; what < 7; what++) {
-            told.append(" count ").append(x.count(what));
-        }
-        return told.append(" walls ").append(x.walls()).toString();
+        check.isTrue("43: all is as it was", was.equals(Look.atCamp(x)));
     }
 
     private static void count() {
@@ -154,7 +129,7 @@ public final class ImageTest {
         x.nights(2);
         x.sheet(0, 8, 2);
         x.write(0, 0, 3);
-        String was = all(x);
+        String was = Look.atCamp(x);
         x.ground(5, 4);
         x.ground(48, 0);
         x.wall(48, true);
@@ -173,7 +148,7 @@ public final class ImageTest {
         x.sheet(0, 8, 41);
         x.copy(0, 0, 0, 1, 2);
         x.undo();
-        check.isTrue("a finding changes nothing", was.equals(all(x)));
+        check.isTrue("a finding changes nothing", was.equals(Look.atCamp(x)));
         check.due("sheets too", x.write(0, 0, 0), 3);
         check.due("sheets too", x.write(0, 1, 0), 0);
         check.due("THE TAPE too", x.count(3), 0);

@@ -165,20 +165,20 @@ public final class PowderBreadTest {
         check.due("32: ration(1000)", x.ration(1000), Check.BEYOND);
         check.due("32: ration(-1)", x.ration(-1), Check.BEYOND);
         for (int ounces = 7; ounces < 999999; ounces = ounces * 3 + 1) {
-            asByTrying(fed(ounces, 3, 7), ounces);
+            for (int n = 1; n < 999; n += 83) {
+                asByTrying(fed(ounces, 3, 7), n, ounces);
+            }
         }
     }
 
-    private static void asByTrying(PeasDrum x, int ounces) {
-        for (int n = 1; n < 999; n += 83) {
-            int greatest = Check.NONE;
-            for (int tried = 1; tried <= 99; tried++) {
-                x.bread(2, tried);
-                if (x.lasts() >= n) {
-                    greatest = tried;
-                }
+    private static void asByTrying(PeasDrum x, int n, int ounces) {
+        int greatest = Check.NONE;
+        for (int tried = 1; tried <= 99; tried++) {
+            x.bread(2, tried);
+            if (x.lasts() >= n) {
+                greatest = tried;
             }
-            check.due("32: ration(" + n + ") of " + ounces, x.ration(n), greatest);
         }
+        check.due("32: ration(" + n + ") of " + ounces, x.ration(n), greatest);
     }
 }

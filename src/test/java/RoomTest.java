@@ -3,30 +3,42 @@ import java.lang.management.ManagementFactory;
 /** All calls of a run live in one small room: an object is small, and no call makes anything. */
 public final class RoomTest {
     private static final long MOST_OF_AN_OBJECT = 40000;
+    /** An object is used for 512 calls; each use has some fifty. */
+    private static final int USES = 9;
     private static final Check check = new Check();
     private static final com.sun.management.ThreadMXBean ROOM =
             (com.sun.management.ThreadMXBean) ManagementFactory.getThreadMXBean();
 
     public static void main(String[] args) {
         // Once for the machine, which makes things of its own when a class is new to it.
-        PeasDrum worn = new PeasDrum();
         for (int i = 0; i < 20; i++) {
-            use(worn);
+            use(new PeasDrum());
         }
-        made();
-        long before = made();
-        PeasDrum x = new PeasDrum();
-        long object = made() - before;
+        long object = Long.MAX_VALUE;
+        long byCalls = Long.MAX_VALUE;
+        // The least of some tries, as the machine may make something of its own at any time.
+        for (int i = 0; i < 5; i++) {
+            long before = made();
+            PeasDrum x = new PeasDrum();
+            object = Math.min(object, made() - before);
+            byCalls = Math.min(byCalls, Math.max(0, byCalls(x) - byAsking()));
+        }
         check.isTrue("an object takes " + object + " bytes at most", object <= MOST_OF_AN_OBJECT);
-        before = made();
-        long byAsking = made() - before;
-        before = made();
-        for (int i = 0; i < 20; i++) {
-            use(x);
-        }
-        long byCalls = made() - before - byAsking;
         check.due("bytes made by calls", byCalls, 0);
         check.end();
+    }
+
+    private static long byCalls(PeasDrum x) {
+        long before = made();
+        for (int i = 0; i < USES; i++) {
+            use(x);
+        }
+        return made() - before;
+    }
+
+    private static long byAsking() {
+        long before = made();
+        return made() - before;
     }
 
     private static long made() {
