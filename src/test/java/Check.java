@@ -8,7 +8,24 @@ final class Check {
     static final int MISSING = -1000000006;
     static final int SIZE = -1000000007;
 
+    private static final long MOST_SECONDS = 120;
+
     private int wrong = 0;
+
+    /** A call that doesn't end is wrong, too: the test fails then, instead of waiting for it. */
+    Check() {
+        Thread watch = new Thread(() -> {
+            try {
+                Thread.sleep(1000 * MOST_SECONDS);
+            } catch (InterruptedException e) {
+                return;
+            }
+            System.out.println("a call does not end within " + MOST_SECONDS + " seconds");
+            Runtime.getRuntime().halt(1);
+        });
+        watch.setDaemon(true);
+        watch.start();
+    }
 
     void due(String call, long got, long want) {
         if (got != want) {
@@ -48,10 +65,12 @@ final class Check {
         return x.siege();
     }
 
-    /** Nights go until NIGHT is that number. */
+    /** Nights go until NIGHT is that number, unless nights() is broken. */
     static void waitUntil(PeasDrum x, int night) {
-        for (int now = x.now(0); now < night; now = x.now(0)) {
+        int now = x.now(0);
+        for (int i = 0; i <= 999 / 60 && now < night; i++) {
             x.nights(Math.min(60, night - now));
+            now = x.now(0);
         }
     }
 

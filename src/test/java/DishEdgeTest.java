@@ -16,6 +16,7 @@ public final class DishEdgeTest {
         bestWithRoomForOne();
         bestOfSeveral();
         bestIsFewest();
+        bestCountsEachPlace();
         check.end();
     }
 
@@ -196,6 +197,16 @@ public final class DishEdgeTest {
             check.due("25: with a DISH at " + cell, Long.bitCount(x.where(0)), due);
             x.undo();
         }
+    }
+
+    /** Two CELLS that are heard alike at one of them: 6 in SAND, and 18 by 3 in ROCK beside it. */
+    private static void bestCountsEachPlace() {
+        PeasDrum x = told("sand 0;rock 1;propped theirs at 1 way 1;dish 0");
+        check.due("25: the first CELL of all, and the next", x.where(1), Check.set(0, 1));
+        check.due("26: not at 0, where they are alike", x.best(1), 1);
+        PeasDrum y = told("sand 47;rock 46;propped theirs at 46 way 1;dish 47");
+        check.due("25: the last CELL of all, and the one ahead", y.where(1), Check.set(46, 47));
+        check.due("26: at 0, by 18 by 12 and 6 by 13", y.best(1), 0);
     }
 
     private static int away(int a, int b) {
