@@ -17,6 +17,7 @@ public final class DishEdgeTest {
         bestOfSeveral();
         bestIsFewest();
         bestCountsEachPlace();
+        bestOfAnyCell();
         check.end();
     }
 
@@ -211,5 +212,20 @@ public final class DishEdgeTest {
 
     private static int away(int a, int b) {
         return Math.abs(a / 8 - b / 8) + Math.abs(a % 8 - b % 8);
+    }
+
+    /** Neither the WALL nor what stands at a CELL keeps a DISH from it. */
+    private static void bestOfAnyCell() {
+        PeasDrum x = told("dish 0");
+        check.due("25: with no WALL", x.where(2), 280362461749440L);
+        check.due("26: with no WALL", x.best(2), 28);
+        Check.siege(x, "wall 0 to 47");
+        check.due("25: below the WALL", x.where(2), 280362461749440L);
+        check.due("26: below the WALL", x.best(2), 28);
+        x.gallery(0, 1, 28, 0);
+        check.due("26: where one of ours is", x.best(2), 28);
+        x.gallery(0, 0, 28, 0);
+        x.blow(28, 1);
+        check.due("26: where a LOST one is", x.best(2), 28);
     }
 }

@@ -20,6 +20,7 @@ public final class OnEdgeTest {
         meetsWithinSixty();
         meetsAheadOfItsLoss();
         meetsWithNoOthers();
+        meetsAsTheirsGoesOn();
         meetsByThoseBesideTheHead();
         whoseOfSeveral();
         whoseLeavesOut();
@@ -283,6 +284,22 @@ public final class OnEdgeTest {
     }
 
     /** In the first n at which it can be there by n, as theirs comes nearer or goes away. */
+    private static void meetsAsTheirsGoesOn() {
+        PeasDrum x = told("propped theirs at 0 way 1");
+        x.nights(1);
+        Check.siege(x, "gallery ours at 3 way 0");
+        check.due("8: DONE of theirs", x.of(0, 4), 1);
+        check.due("19: DONE of theirs counts", x.meets(1, 0), 1);
+        check.due("20: DONE of theirs counts", x.whose(0), 1);
+        x.turn(0, 2);
+        x.turn(0, 1);
+        check.due("19: none is DONE", x.meets(1, 0), 2);
+        PeasDrum y = told("water 8 to 15;propped ours at 7 way 3;gallery theirs at 0 way 0");
+        y.nights(1);
+        check.due("8: DONE of ours", y.of(0, 4), 1);
+        check.due("19: DONE of ours is forgotten", y.meets(0, 1), 12);
+    }
+
     private static void meetsByThoseBesideTheHead() {
         check.due("19: towards one another", told("gallery theirs at 0 way 1;gallery ours at 7 way 3")
                 .meets(1, 0), 3);
